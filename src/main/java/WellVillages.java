@@ -27,7 +27,10 @@ public final class WellVillages {
     private static final int MAX_TOLD = 20;
     private static final int MAX_WIDTH = 10;
     private static final int MAX_WATER = 9999;
+    private static final int MAX_RAIN = 99;
     private static final int MAX_SALTY = 1000000000;
+    private static final int MAX_ASKED_SALTY = 9999;
+    private static final int MAX_TOLD_LEVEL = 9999;
     private static final int MAX_RUN = 400;
     private static final int MAX_AHEAD = 200;
     private static final int MAX_WANT = 999;
@@ -85,15 +88,14 @@ public final class WellVillages {
     private int length = 0;
     private int faultPlace = NONE;
     private final Reader reader = new Reader();
-    private Ground ground = new Ground();
-    private Ground spare = new Ground();
+    private final Ground ground = new Ground();
     private final Plan plan = new Plan();
-    private final Course course = new Course(plan);
+    private final Course course = new Course(ground, plan);
     private final Days now = new Days();
     private final Days trial = new Days();
     private final Days[] slots = new Days[SLOTS];
     private final boolean[] held = new boolean[SLOTS];
-    private final Evidence evidence = new Evidence(course, plan, trial);
+    private final Evidence evidence = new Evidence(ground);
 
     public WellVillages() {
         for (int i = 0; i < SLOTS; i++) {
@@ -132,20 +134,17 @@ public final class WellVillages {
     }
 
     public int read() {
-        int fault = reader.fill(spare, tape, length);
+        int fault = reader.readAll(tape, length);
         faultPlace = reader.placeOfFault();
         length = 0;
         if (fault == 0) {
-            Ground old = ground;
-            ground = spare;
-            spare = old;
+            ground.become(reader.ground);
             startAnew();
         }
         return fault;
     }
 
     private void startAnew() {
-        course.ground = ground;
         now.begin(ground);
         evidence.clear();
         for (int i = 0; i < SLOTS; i++) {
@@ -299,7 +298,7 @@ public final class WellVillages {
     }
 
     public int salty(int cell, int t, int n) {
-        if (!isCell(cell) || t < 1 || t > MAX_WATER || !isAhead(n)) {
+        if (!isCell(cell) || t < 1 || t > MAX_ASKED_SALTY || !isAhead(n)) {
             return NONE;
         }
         tryAsTold();
@@ -505,7 +504,7 @@ public final class WellVillages {
     // ---- what the levels tell
 
     public int tell(int day, int cell, int level) {
-        if (day < 0 || day >= MAX_AHEAD || !isCell(cell) || level < 0 || level > MAX_WATER) {
+        if (day < 0 || day >= MAX_AHEAD || !isCell(cell) || level < 0 || level > MAX_TOLD_LEVEL) {
             return NONE;
         }
         return evidence.add(day, cell, level);
@@ -521,7 +520,6 @@ public final class WellVillages {
         if (!isKnown(k)) {
             return NONE;
         }
-        plan.setAsTold(ground);
         return evidence.firstOff(k);
     }
 
@@ -529,23 +527,20 @@ public final class WellVillages {
         if (!isPass(pass) || !isKnown(k)) {
             return NONE;
         }
-        plan.setAsTold(ground);
-        return evidence.spanIn(plan.passWidth, pass, MAX_WIDTH, k);
+        return evidence.spanOfPass(pass, k);
     }
 
     public int rainSpan(int i, int k) {
         if (i < 0 || i >= ground.rains || !isKnown(k)) {
             return NONE;
         }
-        plan.setAsTold(ground);
-        return evidence.spanIn(plan.rain, i, 99, k);
+        return evidence.spanOfRain(i, k);
     }
 
     public int pairs(int pass, int other, int k, int what) {
         if (!arePair(pass, other) || !isKnown(k) || what < 0 || what > 1) {
             return NONE;
         }
-        plan.setAsTold(ground);
         evidence.fitPairs(pass, other, k, NONE);
         return what == 0 ? evidence.fitting : evidence.firstPair;
     }
@@ -554,7 +549,6 @@ public final class WellVillages {
         if (!arePair(pass, other) || !isKnown(k) || day < 0 || day >= MAX_AHEAD) {
             return NONE;
         }
-        plan.setAsTold(ground);
         evidence.fitPairs(pass, other, k, day);
         return evidence.fitting == 0 ? NEVER : evidence.cellThatParts();
     }
@@ -563,7 +557,6 @@ public final class WellVillages {
         if (!isKnown(k) || what < 0 || what > 3) {
             return NONE;
         }
-        plan.setAsTold(ground);
         evidence.lookForPump(k);
         return evidence.pumpAnswer(what);
     }
@@ -698,6 +691,29 @@ public final class WellVillages {
             villages = 0;
             rains = 0;
             Arrays.fill(ways, 0);
+        }
+
+        void become(Ground other) {
+            cells = other.cells;
+            System.arraycopy(other.room, 0, room, 0, MAX_CELLS);
+            System.arraycopy(other.water, 0, water, 0, MAX_CELLS);
+            System.arraycopy(other.ways, 0, ways, 0, MAX_CELLS);
+            passes = other.passes;
+            System.arraycopy(other.passFrom, 0, passFrom, 0, MAX_PASSES);
+            System.arraycopy(other.passTo, 0, passTo, 0, MAX_PASSES);
+            System.arraycopy(other.passWidth, 0, passWidth, 0, MAX_PASSES);
+            rivers = other.rivers;
+            System.arraycopy(other.riverCell, 0, riverCell, 0, MAX_RIVERS);
+            System.arraycopy(other.riverLevel, 0, riverLevel, 0, MAX_RIVERS);
+            System.arraycopy(other.riverWidth, 0, riverWidth, 0, MAX_RIVERS);
+            System.arraycopy(other.riverSalt, 0, riverSalt, 0, MAX_RIVERS);
+            villages = other.villages;
+            System.arraycopy(other.villageCell, 0, villageCell, 0, MAX_VILLAGES);
+            System.arraycopy(other.need, 0, need, 0, MAX_VILLAGES);
+            System.arraycopy(other.lawEnd, 0, lawEnd, 0, MAX_VILLAGES);
+            System.arraycopy(other.code, 0, code, 0, MAX_TOKENS);
+            rains = other.rains;
+            System.arraycopy(other.rain, 0, rain, 0, MAX_RAINS);
         }
 
         int levelOf(int cell, int amount) {
@@ -852,7 +868,7 @@ public final class WellVillages {
 
     /** The rules of a day. */
     private static final class Course {
-        Ground ground = null;
+        private final Ground ground;
         private final Plan plan;
         /** Which villages lacked their need, on the day that was run last. */
         final boolean[] lacked = new boolean[MAX_VILLAGES];
@@ -864,7 +880,8 @@ public final class WellVillages {
         private final long[] salt = new long[MAX_CELLS];
         private final int[] stack = new int[STACK];
 
-        Course(Plan plan) {
+        Course(Ground ground, Plan plan) {
+            this.ground = ground;
             this.plan = plan;
         }
 
@@ -1015,7 +1032,7 @@ public final class WellVillages {
         }
     }
 
-    /** The levels that were told, and what fits them; the plan is as told when it is asked. */
+    /** The levels that were told, and what fits them: all runs here are from the text's begin on. */
     private static final class Evidence {
         int told = 0;
         private final int[] toldDay = new int[MAX_TOLD];
@@ -1024,9 +1041,10 @@ public final class WellVillages {
         /** How many pairs of widths fit, and the first of them. */
         int fitting = 0;
         int firstPair = NEVER;
+        private final Ground ground;
+        private final Plan plan = new Plan();
         private final Course course;
-        private final Plan plan;
-        private final Days trial;
+        private final Days trial = new Days();
         /** Levels of all cells, row by row for each pair that fits; made when first needed. */
         private int[] pairLevels = null;
         /** The begins of the first days without a pump; made when first needed. */
@@ -1039,10 +1057,9 @@ public final class WellVillages {
         private int foundFrom = 0;
         private int foundTo = 0;
 
-        Evidence(Course course, Plan plan, Days trial) {
-            this.course = course;
-            this.plan = plan;
-            this.trial = trial;
+        Evidence(Ground ground) {
+            this.ground = ground;
+            this.course = new Course(ground, plan);
         }
 
         void clear() {
@@ -1073,7 +1090,7 @@ public final class WellVillages {
         private int offToday(int k) {
             for (int i = 0; i < k && i < MAX_TOLD; i++) {
                 int cell = toldCell[i];
-                if (toldDay[i] == trial.day && course.ground.levelOf(cell, trial.water[cell]) != toldLevel[i]) {
+                if (toldDay[i] == trial.day && ground.levelOf(cell, trial.water[cell]) != toldLevel[i]) {
                     return i;
                 }
             }
@@ -1083,7 +1100,8 @@ public final class WellVillages {
         int firstOff(int k) {
             int first = NEVER;
             int last = lastDay(k);
-            trial.begin(course.ground);
+            plan.setAsTold(ground);
+            trial.begin(ground);
             for (int day = 0; day <= last; day++) {
                 int off = offToday(k);
                 if (off != NEVER && (first == NEVER || off < first)) {
@@ -1097,7 +1115,7 @@ public final class WellVillages {
         /** Whether all that is known is so; the levels of one day are kept on the way (NONE: of none). */
         private boolean fits(int k, int keptDay) {
             int last = Math.max(lastDay(k), keptDay);
-            trial.begin(course.ground);
+            trial.begin(ground);
             for (int day = 0; day <= last; day++) {
                 if (offToday(k) != NEVER) {
                     return false;
@@ -1117,13 +1135,23 @@ public final class WellVillages {
                 pairLevels = new int[PAIRS * MAX_CELLS];
             }
             int row = fitting * MAX_CELLS;
-            for (int c = 0; c < course.ground.cells && row + c < pairLevels.length; c++) {
-                pairLevels[row + c] = course.ground.levelOf(c, trial.water[c]);
+            for (int c = 0; c < ground.cells && row + c < pairLevels.length; c++) {
+                pairLevels[row + c] = ground.levelOf(c, trial.water[c]);
             }
         }
 
-        /** The least and the greatest number (0 .. greatest) at an index of a row of the plan that fits. */
-        int spanIn(int[] row, int index, int greatest, int k) {
+        int spanOfPass(int pass, int k) {
+            plan.setAsTold(ground);
+            return spanAt(pass, plan.passWidth, MAX_WIDTH, k);
+        }
+
+        int spanOfRain(int i, int k) {
+            plan.setAsTold(ground);
+            return spanAt(i, plan.rain, MAX_RAIN, k);
+        }
+
+        /** The least and the greatest number (0 .. greatest) at an index of one of the plan's rows that fits. */
+        private int spanAt(int index, int[] row, int greatest, int k) {
             if (index < 0 || index >= row.length) {
                 return NEVER;
             }
@@ -1142,6 +1170,7 @@ public final class WellVillages {
         void fitPairs(int pass, int other, int k, int keptDay) {
             fitting = 0;
             firstPair = NEVER;
+            plan.setAsTold(ground);
             for (int one = 0; one <= MAX_WIDTH; one++) {
                 for (int two = 0; two <= MAX_WIDTH; two++) {
                     plan.passWidth[pass] = one;
@@ -1158,7 +1187,7 @@ public final class WellVillages {
         int cellThatParts() {
             int best = NEVER;
             int fewest = PAIRS + 1;
-            for (int c = 0; c < course.ground.cells; c++) {
+            for (int c = 0; c < ground.cells; c++) {
                 int alike = greatestAlike(c);
                 if (alike < fewest) {
                     fewest = alike;
@@ -1209,7 +1238,7 @@ public final class WellVillages {
             foundCell = firstWrong == NEVER ? NOT_NEEDED : NEVER;
             int froms = Math.min(firstWrong, PUMP_DAYS); // a pump that begins later comes too late
             for (int cost = 1; cost <= PUMP_MOST * PUMP_DAYS && foundCell == NEVER; cost++) {
-                for (int cell = 0; cell < course.ground.cells; cell++) {
+                for (int cell = 0; cell < ground.cells; cell++) {
                     for (int from = 0; from < froms; from++) {
                         for (int to = from; to < PUMP_DAYS; to++) {
                             int takes = takesFor(cost, to - from + 1);
@@ -1242,7 +1271,8 @@ public final class WellVillages {
         /** The first day on which a known level is not so without a pump. */
         private int keepBegins(int k, int last) {
             makeBegins();
-            trial.begin(course.ground);
+            plan.setAsTold(ground);
+            trial.begin(ground);
             for (int day = 0; day <= last; day++) {
                 if (day < PUMP_DAYS) {
                     begins[day].become(trial);
@@ -1265,6 +1295,9 @@ public final class WellVillages {
         }
 
         private boolean explains(int k, int last) {
+            if (begins == null || plan.pumpFrom >= begins.length) {
+                return false;
+            }
             trial.become(begins[plan.pumpFrom]);
             int greatest = 0;
             for (int day = plan.pumpFrom; day < last; day++) {
@@ -1281,7 +1314,7 @@ public final class WellVillages {
         }
     }
 
-    /** Reads a tape into a ground, or finds its fault. */
+    /** Reads a tape into a ground of its own, or finds its fault. */
     private static final class Reader {
         private final int[] kind = new int[SCANNED];
         private final int[] start = new int[SCANNED];
@@ -1289,7 +1322,7 @@ public final class WellVillages {
         private final long[] value = new long[SCANNED];
         private final long[] cellName = new long[MAX_CELLS];
         private final long[] villageName = new long[MAX_VILLAGES];
-        private Ground ground = null;
+        final Ground ground = new Ground();
         private int next = 0;
         private int codeLength = 0;
         /** The cell of the village whose law is read. */
@@ -1304,8 +1337,8 @@ public final class WellVillages {
         private int laterPlace = NONE;
 
         /** 0, or the number of the text's fault: then what the ground holds is of no use. */
-        int fill(Ground target, byte[] tape, int length) {
-            reset(target);
+        int readAll(byte[] tape, int length) {
+            begin();
             scan(tape, Math.min(length, tape.length));
             for (int i = 0; i < SCANNED && !stopped && kind[next] != END; i++) {
                 switch (kind[next]) {
@@ -1324,8 +1357,7 @@ public final class WellVillages {
             return fault == 0 ? laterPlace : faultPlace;
         }
 
-        private void reset(Ground target) {
-            ground = target;
+        private void begin() {
             ground.clear();
             next = 0;
             codeLength = 0;
@@ -1479,7 +1511,7 @@ public final class WellVillages {
                 if (ground.rains >= MAX_RAINS) {
                     stop(ROOM, start[next]);
                 } else {
-                    ground.rain[ground.rains] = number(0, 99);
+                    ground.rain[ground.rains] = number(0, MAX_RAIN);
                     ground.rains++;
                 }
             }
