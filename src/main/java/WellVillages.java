@@ -916,7 +916,7 @@ public final class WellVillages {
         }
 
         int rainOf(int day) {
-            return ground.rains < 1 ? 0 : plan.rain[day % ground.rains];
+            return ground.rains < 1 ? 0 : plan.rain[Math.floorMod(day, ground.rains)];
         }
 
         void takeTurns(Days days) {

@@ -114,6 +114,7 @@ public final class DaysTest {
         due("took", wants("took"), 0);
         due("dry", wants("dry"), 0);
         due("(((((seen))))))", wants("1-(2-(3-(4-(5-(6-seen)))))"), 47);
+        due("all that can be open at once", wants("1+2*(1+2*(1+2*(1+2*(1+2*(1+2*(1+2*3))))))"), 511);
         WellVillages x = Check.over("cell a 1 500;village v a 9=day*2;village w a 0=took+1;village u a 7=dry;");
         due("want(-1)", x.want(-1), -1);
         due("want(3)", x.want(3), -1);

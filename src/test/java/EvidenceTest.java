@@ -224,6 +224,10 @@ public final class EvidenceTest {
         x = Check.over("cell a 1 5;village v a 5=day*5;");
         x.tell(1, 0, 0);
         pump("no more than its water", x, 1, 0, 5, 0, 0);
+        x = Check.over("cell a 1 3;rain 0 10;");
+        x.tell(1, 0, 0);
+        x.tell(2, 0, 5);
+        pump("less on the first day, all on the second", x, 2, 0, 5, 0, 1);
     }
 
     private static void hiddenBehindVillages() {

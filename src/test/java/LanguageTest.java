@@ -127,7 +127,7 @@ public final class LanguageTest {
         }
         Matcher calls = Pattern.compile("\\b(Math|Integer|Long|Arrays|System|String)\\.(\\w+)").matcher(code);
         while (calls.find()) {
-            holds("rule 4: " + calls.group(), Set.of("Math.min", "Math.max", "Integer.bitCount", "Arrays.fill",
+            holds("rule 4: " + calls.group(), Set.of("Math.min", "Math.max", "Math.floorMod", "Integer.bitCount", "Arrays.fill",
                 "System.arraycopy").contains(calls.group()));
         }
     }

@@ -110,9 +110,11 @@ final class RandomTexts {
     /** A text with something changed by chance, so that it may have a fault. */
     String bad() {
         StringBuilder text = new StringBuilder(good());
+        // letters changed by chance mostly break the syntax: most texts get whole tellings too much instead
+        int kinds = random.nextInt(3) == 0 ? 0 : 6;
         for (int i = 1 + upTo(2); i > 0 && text.length() > 0; i--) {
             int at = random.nextInt(text.length());
-            switch (random.nextInt(9)) {
+            switch (kinds + random.nextInt(9 - kinds)) {
                 case 0 -> text.deleteCharAt(at);
                 case 1 -> text.insert(at, (char) random.nextInt(256));
                 case 2 -> text.setCharAt(at, "abz059;=+-*/() .,AZ".charAt(random.nextInt(19)));

@@ -6,6 +6,7 @@ public final class TextTest {
         newObject();
         tape();
         bytesOfWords();
+        whatWentBack();
         tokens();
         syntax();
         roomForCounts();
@@ -79,7 +80,9 @@ public final class TextTest {
         due("back(1)", x.back(1), 1999);
         due("feed to 2019", x.feed(0, 0, 0, 0, 0), -1);
         due("count(7)", x.count(7), 1999);
-        due("back(19)", x.back(19), 1980);
+        due("back(18)", x.back(18), 1981);
+        due("feed to 2001", x.feed(0, 0, 0, 0, 0), -1);
+        due("back(1)", x.back(1), 1980);
         due("feed to 2000", x.feed(0x20202020, 0x20202020, 0x20202020, 0x20202020, 0x20202020), 2000);
         due("back(2001)", x.back(2001), -1);
         due("back(least)", x.back(Integer.MIN_VALUE), -1);
@@ -98,6 +101,19 @@ public final class TextTest {
         x.feed(0x63656c6c, 0x20612037, 0x203132c3, 0, 0);
         due("read() of a byte above 127", x.read(), 1);
         due("place()", x.place(), 11);
+    }
+
+    /** What went back is no part of the text, though it stood right behind its last token. */
+    private static void whatWentBack() {
+        for (String text : new String[] {"cell abcdefgh|i", "cell a 1 1234|5", "cell a 1 1;|;", "cell a 1 1;rain| x"}) {
+            int end = text.indexOf('|');
+            WellVillages x = new WellVillages();
+            Check.put(x, text.replace("|", ""));
+            x.back(text.length() - 1 - end);
+            boolean whole = text.charAt(end - 1) == ';';
+            due("read() of " + text, x.read(), whole ? 0 : 1);
+            due("place() of " + text, x.place(), whole ? -1 : end);
+        }
     }
 
     private static void tokens() {
