@@ -38,6 +38,8 @@ public final class DaysEdgeTest {
         slotsApart();
         noSuchSlot();
         countEdges();
+        dayTimesDayWraps();
+        asLongAsCanBe();
         CHECK.end();
     }
 
@@ -666,5 +668,44 @@ public final class DaysEdgeTest {
         for (int what = 0; what <= 9; what++) {
             due("count(" + what + ")", x.count(what), due[what]);
         }
+    }
+
+    // ---- an object's last calls
+
+    /** 46340 times itself is an int, 46341 times itself wraps below 0. */
+    private static void dayTimesDayWraps() {
+        WellVillages x = Check.over("cell a 1 0;village v a 0=day*day;");
+        for (int i = 0; i < 115; i++) {
+            x.run(400);
+        }
+        due("day", x.run(340), 46340);
+        due("46340 * 46340", x.want(0), 999);
+        x.run(1);
+        due("46341 * 46341", x.want(0), 0);
+    }
+
+    /** Of 512 calls 500 are runs of 400 days: nothing of what is counted wraps. */
+    private static void asLongAsCanBe() {
+        WellVillages x = Check.over("cell a 1 9999;cell b 9 0;cell c 1 9999;pass b c 10;rain 99;river a 0 1 5;"
+            + "village v b 99=98;village w b 1=999;village z c 0=1;");
+        WellVillages y = Check.over("cell a 1 9999;rain 99;village v a 99=0;");
+        for (int i = 0; i < 500; i++) {
+            x.run(400);
+            y.run(400);
+        }
+        int days = 200000;
+        due("day", x.count(4), days);
+        due("all that v took", x.village(0, 5), 98 * days);
+        due("dry days of v", x.village(0, 1), days);
+        due("first dry day of v", x.village(0, 2), 0);
+        due("all that z took", x.village(2, 5), days);
+        due("a: as much flows out as comes", x.flow(0, true), -99);
+        due("all rain less all that was taken is there", x.cell(1, 0) + x.cell(2, 0),
+            9999 + 2 * 99 * days - x.village(0, 5) - x.village(1, 5) - x.village(2, 5));
+        due("water that no one takes", y.cell(0, 0), 9999 + 99 * days);
+        due("its level", y.cell(0, 1), 9999 + 99 * days);
+        due("all water", y.count(9), 9999 + 99 * days);
+        due("what would come", y.balance(200, 3), 200 * 99);
+        due("dry days", y.village(0, 1), days);
     }
 }

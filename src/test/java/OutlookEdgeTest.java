@@ -39,6 +39,7 @@ public final class OutlookEdgeTest {
         blameOfThree();
         blameBelowZero();
         blamesAddUp();
+        sixVillages();
         nothingHappens();
         CHECK.end();
     }
@@ -517,6 +518,26 @@ public final class OutlookEdgeTest {
                 due(all + " villages, for " + v, sum, orders[all] * worth);
             }
         }
+    }
+
+    /** As many villages as there can be, none of which is dry. */
+    private static void sixVillages() {
+        StringBuilder text = new StringBuilder("cell a 1 9999;");
+        for (int i = 0; i < 6; i++) {
+            text.append("village v").append((char) ('a' + i)).append(" a 1=1;");
+        }
+        WellVillages x = Check.over(text.toString());
+        due("firstOf(200)", x.firstOf(200), -2);
+        due("fairest(200)", x.fairest(200), 8); // 6 * 8 * 200
+        due("share(200)", x.share(200), 100);
+        for (int v = 0; v < 6; v++) {
+            due("most(" + v + ", 1)", x.most(v, 1), 99);
+            due("most(" + v + ", 200)", x.most(v, 200), 44); // 200 * (5 + 44)
+            due("shut(" + v + ", 200)", x.shut(v, 200), 0);
+            due("worth(" + v + ", 63, 200)", x.worth(v, 63, 200), 0);
+            due("blame(" + v + ", 0, 200)", x.blame(v, 0, 200), 0);
+        }
+        due("balance(200, 1)", x.balance(200, 1), 1200);
     }
 
     private static void nothingHappens() {

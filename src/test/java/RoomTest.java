@@ -8,7 +8,7 @@ public final class RoomTest {
         (com.sun.management.ThreadMXBean) ManagementFactory.getThreadMXBean();
 
     public static void main(String[] args) {
-        String text = fullText();
+        String text = FullText.text();
         WellVillages x = Check.over(text);
         x.run(9);
         x.tell(199, 11, 9999);
@@ -63,29 +63,5 @@ public final class RoomTest {
         long seconds = (System.nanoTime() - start) / 1000000000L;
         CHECK.due(name + " makes few bytes: " + made / n + " a call", made / n < 1000, true);
         CHECK.due(name + " takes below a minute: " + seconds + " s", seconds < 60, true);
-    }
-
-    /** All cells, passes, rivers, rain and villages that there is room for, laws up to the 400th token. */
-    private static String fullText() {
-        StringBuilder text = new StringBuilder();
-        for (int i = 0; i < 12; i++) {
-            text.append("cell ").append(cell(i)).append(" 3 9000;");
-        }
-        for (int i = 0; i < 12; i++) {
-            text.append("pass ").append(cell(i)).append(' ').append(cell(i + 1)).append(" 7;");
-        }
-        for (int i = 0; i < 8; i++) {
-            text.append("pass ").append(cell(i)).append(' ').append(cell(i + 3)).append(" 7;");
-        }
-        text.append("river a 900 10 90;river b 10 10 0;river c 500 10 5;rain 1 2 3 4 5 6 7 8 9 10 11 12 13 14;");
-        for (int i = 0; i < 6; i++) {
-            text.append("village v").append(cell(i)).append(' ').append(cell(i)).append(" 9=at ").append(cell(i));
-            text.append("/9".repeat(i < 5 ? 13 : 14)).append(';');
-        }
-        return text.toString();
-    }
-
-    private static char cell(int i) {
-        return (char) ('a' + i % 12);
     }
 }
