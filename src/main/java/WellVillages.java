@@ -6,6 +6,7 @@ public final class WellVillages {
 
     private static final int NEVER = -2;
     private static final int NOT_NEEDED = -3;
+    private static final int NOT_SOUGHT = -4;
     private static final int NO_ANSWER = -1000000;
 
     private static final int TAPE_BYTES = 2000;
@@ -39,6 +40,8 @@ public final class WellVillages {
     private static final int WEEK = 7;
     private static final int PUMP_DAYS = 14;
     private static final int PUMP_MOST = 9;
+    /** What is answered of a pump: its cell, what it takes, from when and till when. */
+    private static final int PUMP_ANSWERS = 4;
     private static final int PAIRS = (MAX_WIDTH + 1) * (MAX_WIDTH + 1);
 
     private static final int SYNTAX = 1;
@@ -558,7 +561,7 @@ public final class WellVillages {
             return NONE;
         }
         evidence.lookForPump(k);
-        return evidence.pumpAnswer(what);
+        return evidence.pumpAnswer(k, what);
     }
 
     // ---- what there is, and what a trial needs
@@ -1049,13 +1052,8 @@ public final class WellVillages {
         private int[] pairLevels = null;
         /** The begins of the first days without a pump; made when first needed. */
         private Days[] begins = null;
-        /** By how many known ones the pump was sought last, NONE: not yet. */
-        private int soughtBy = NONE;
-        /** The pump's cell, or why there is none. */
-        private int foundCell = NEVER;
-        private int foundTakes = 0;
-        private int foundFrom = 0;
-        private int foundTo = 0;
+        /** The pumps by how many are known, row by row; in place of a pump's cell why there is none. */
+        private final int[] pumps = new int[PUMP_ANSWERS * (MAX_TOLD + 1)];
 
         Evidence(Ground ground) {
             this.ground = ground;
@@ -1064,7 +1062,7 @@ public final class WellVillages {
 
         void clear() {
             told = 0;
-            soughtBy = NONE;
+            Arrays.fill(pumps, NOT_SOUGHT);
         }
 
         int add(int day, int cell, int level) {
@@ -1215,36 +1213,33 @@ public final class WellVillages {
             return greatest;
         }
 
-        int pumpAnswer(int what) {
-            if (foundCell < 0) {
-                return foundCell;
+        int pumpAnswer(int k, int what) {
+            int row = PUMP_ANSWERS * k;
+            if (row < 0 || row + PUMP_ANSWERS > pumps.length || what < 0 || what >= PUMP_ANSWERS) {
+                return NONE;
             }
-            switch (what) {
-                case 0: return foundCell;
-                case 1: return foundTakes;
-                case 2: return foundFrom;
-                default: return foundTo;
-            }
+            return pumps[row] < 0 ? pumps[row] : pumps[row + what];
         }
 
         /** Seeks by growing cost, then by cell and days: the first that explains is the one. */
         void lookForPump(int k) {
-            if (soughtBy == k) {
-                return;
+            int row = PUMP_ANSWERS * k;
+            if (row < 0 || row + PUMP_ANSWERS > pumps.length || pumps[row] != NOT_SOUGHT) {
+                return; // what is told later is not among the first k: what was found stays so
             }
-            soughtBy = k;
             int last = lastDay(k);
             int firstWrong = keepBegins(k, last);
-            foundCell = firstWrong == NEVER ? NOT_NEEDED : NEVER;
+            pumps[row] = firstWrong == NEVER ? NOT_NEEDED : NEVER;
             int froms = Math.min(firstWrong, PUMP_DAYS); // a pump that begins later comes too late
-            for (int cost = 1; cost <= PUMP_MOST * PUMP_DAYS && foundCell == NEVER; cost++) {
+            int tos = Math.min(last, PUMP_DAYS); // one that ends later does the same, and costs more
+            for (int cost = 1; cost <= PUMP_MOST * PUMP_DAYS && pumps[row] == NEVER; cost++) {
                 for (int cell = 0; cell < ground.cells; cell++) {
                     for (int from = 0; from < froms; from++) {
-                        for (int to = from; to < PUMP_DAYS; to++) {
+                        for (int to = from; to < tos; to++) {
                             int takes = takesFor(cost, to - from + 1);
                             plan.setPump(cell, takes, from, to);
                             if (takes > 0 && explains(k, last)) {
-                                keepPump();
+                                keepPump(row);
                                 return;
                             }
                         }
@@ -1253,19 +1248,22 @@ public final class WellVillages {
             }
         }
 
+        private void keepPump(int row) {
+            if (row < 0 || row + PUMP_ANSWERS > pumps.length) {
+                return;
+            }
+            pumps[row] = plan.pumpCell;
+            pumps[row + 1] = plan.pumpTakes;
+            pumps[row + 2] = plan.pumpFrom;
+            pumps[row + 3] = plan.pumpTo;
+        }
+
         /** What a pump takes a day that costs so much on so many days; 0: none does. */
         private static int takesFor(int cost, int days) {
             if (days < 1 || cost % days != 0 || cost / days > PUMP_MOST) {
                 return 0;
             }
             return cost / days;
-        }
-
-        private void keepPump() {
-            foundCell = plan.pumpCell;
-            foundTakes = plan.pumpTakes;
-            foundFrom = plan.pumpFrom;
-            foundTo = plan.pumpTo;
         }
 
         /** The first day on which a known level is not so without a pump. */

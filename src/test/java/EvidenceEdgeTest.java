@@ -33,6 +33,8 @@ public final class EvidenceEdgeTest {
         hiddenNoMoreThanTheWater();
         hiddenBehindAllVillages();
         hiddenNone();
+        hiddenByEachK();
+        hiddenForgets();
         oneCallLeavesNothingForTheNext();
         nothingHappens();
         CHECK.end();
@@ -569,6 +571,50 @@ public final class EvidenceEdgeTest {
         told(x, 20, 1, 99, 30, 1, 98);
         pump("too late", x, -2);
         due("the first alone", x.hidden(1, 0), 1);
+    }
+
+    /** "KNOWN by k: the first k", whichever k was asked of ahead, and whatever is told later */
+    private static void hiddenByEachK() {
+        int[][] dues = {{-3}, {-3}, {0, 5, 1, 1}, {0, 5, 1, 2}, {0, 5, 1, 2}, {-2}};
+        WellVillages x = Check.over("cell a 1 200;");
+        int[] levels = {1, 200, 2, 195, 3, 190, 4, 190, 20, 191};
+        for (int k = 0; k < dues.length; k++) {
+            for (int first = 0; first <= k; first++) {
+                for (int second = k; second >= 0; second--) {
+                    int[] due = dues[second];
+                    x.hidden(first, 0);
+                    for (int i = 0; i < 4; i++) {
+                        due("hidden(" + second + ", " + i + ") behind " + first, x.hidden(second, i),
+                            due.length == 1 ? due[0] : due[i]);
+                    }
+                }
+            }
+            if (k < 5) {
+                due("hidden by more than are told", x.hidden(k + 1, 0), -1);
+                due("tell", x.tell(levels[2 * k], 0, levels[2 * k + 1]), k);
+            }
+        }
+    }
+
+    /** "All that was TOLD is forgotten", and with another text "nothing is TOLD" */
+    private static void hiddenForgets() {
+        WellVillages x = Check.over("cell a 1 200;");
+        told(x, 1, 0, 195);
+        pump("5", x, 0, 5, 0, 0);
+        told(x, 1, 0, 197);
+        pump("3", x, 0, 3, 0, 0);
+        told(x, 1, 0, 200);
+        pump("none is needed", x, -3);
+        told(x, 1, 0, 201);
+        pump("none explains", x, -2);
+        Check.put(x, "cell b 1 202;");
+        due("read", x.read(), 0);
+        due("nothing is told", x.hidden(1, 0), -1);
+        told(x, 1, 0, 201);
+        pump("1 of 202", x, 0, 1, 0, 0);
+        Check.put(x, "cell b 1 202;cell b");
+        due("read", x.read(), 1);
+        pump("a text with a fault changes nothing", x, 0, 1, 0, 0);
     }
 
     // ---- one call and the next
